@@ -688,10 +688,6 @@ public final class InsideOut {
             tick = other.tick;
         }
 
-        int fromOn(int step) {
-            return isStep(step) ? from[step] : LEFT;
-        }
-
         int windOn(int step) {
             if (!isStep(step)) {
                 return 0;
@@ -870,10 +866,11 @@ public final class InsideOut {
             if (!isStep(at)) {
                 return false;
             }
-            int from = street.fromOn(at);
+            int from = street.from[at];
+            int fromNext = street.from[Math.min(STEPS - 1, at + 1)];
             int wind = street.windOn(at);
             int stiff = stiff();
-            holdByHabit(street, wind > bearable(stiff, from, from));
+            holdByHabit(from, fromNext, wind > bearable(stiff, from, from));
             boolean wentOut = turn(from, wind > bearable(stiff, from, held));
             if (street.roof[at] == 0) {
                 int covered = held == SHUT || out == 1 ? 0 : covers(street);
@@ -885,14 +882,13 @@ public final class InsideOut {
             return wentOut;
         }
 
-        private void holdByHabit(Street street, boolean tooWindy) {
-            int from = street.fromOn(at);
+        private void holdByHabit(int from, int fromNext, boolean tooWindy) {
             switch (habit) {
                 case 1:
                     held = from;
                     break;
                 case 2:
-                    held = street.fromOn(Math.min(STEPS - 1, at + 1));
+                    held = fromNext;
                     break;
                 case 3:
                     held = tooWindy ? SHUT : from;

@@ -119,6 +119,10 @@ public final class AheadTest {
         x.change(4, 1, 16);
         due("first(), one that is HOME now", x.first(), 4);
         due("status(3)", x.status(3), 2);
+        x = Due.from("paper;umbrella");
+        due("first(), number 0", x.first(), 0);
+        x = Due.from("umbrella;umbrella");
+        due("first(), number 0 of two alike", x.first(), 0);
     }
 
     private static void nothingChanges() {

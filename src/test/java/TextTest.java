@@ -156,6 +156,8 @@ public final class TextTest {
             {"rain 100", "5"}, {"rain", "4"}, {"rain 1 big", "7"}, {"gust 100", "5"}, {"gust;", "4"},
             {"rain 4294967295", "5"}, {"rain 18446744073709551616", "5"}, {"rain 5;rain 100", "12"},
             {"umbrellas", "0"}, {"umbrell", "0"}, {"golf;roofs 3", "5"}, {"rain 5#", "6"}, {"#", "0"},
+            {"bigz", "0"}, {"zbig", "0"}, {"big{", "3"}, {"big`", "3"}, {"rain 5:", "6"}, {"rain 5/", "6"},
+            {"rain /", "5"}, {"big\0", "3"}, {"big;\0", "4"}, {"\0", "0"}, {"rain 9 9", "7"}, {"big\u00ff", "3"},
         };
         for (String[] row : rows) {
             InsideOut x = new InsideOut();

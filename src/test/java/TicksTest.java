@@ -222,7 +222,11 @@ public final class TicksTest {
         due("gusts(20)", x.gusts(20), 0);
         due("gusts(20)", x.gusts(20), Due.STATE);
         due("gusts(21)", x.gusts(21), BEYOND);
-        due("z stays", x.now(0), 99980);
+        due("TICK stays", x.now(0), 99980);
+        x.image();
+        due("gusts(19)", x.gusts(19), 0);
+        due("TICK", x.now(0), 99999);
+        due("undo()", x.undo(), 99980);
         due("go(19)", x.go(19), 0);
         due("go(1)", x.go(1), Due.STATE);
         due("gusts(1)", x.gusts(1), Due.STATE);
