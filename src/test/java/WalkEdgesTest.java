@@ -227,7 +227,7 @@ public final class WalkEdgesTest {
         due("homeWith WET, of that TICK", x.homeWith(1, 7), 4);
     }
 
-    /** Promises 12 and 13: NONE. No walk that comes HOME at all needs more than some fifty TICKS. */
+    /** Promises 12 and 13: NONE. No walk is known that comes HOME only near the 200th TICK. */
     private static void homeNever() {
         InsideOut x = stuck();
         due("home, never", x.home(0), NONE);
